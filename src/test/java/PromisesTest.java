@@ -32,6 +32,7 @@ public final class PromisesTest {
         promise11FirstFaultThatHolds();
         promise12Told();
         promise12ToldState();
+        promise12EqualStates();
         promise13Shown();
         promise14Prove();
         promise14ProveKeepsMachine();
@@ -41,6 +42,7 @@ public final class PromisesTest {
         promise18Ring();
         promise19Answered();
         promise20Same();
+        promise20SameWithoutFaults();
         promise20SameFromHere();
         promise21From();
         Check.end();
@@ -153,7 +155,21 @@ public final class PromisesTest {
         due("2 a plan", read(x, "AB1-2;B1-1"), 2);
         due("2 told of seconds", x.told(0), 0);
         due("2 nothing clashes", x.second(), 0);
-        due("2 least time is 1, most 31", x.second(), 0);
+        due("2 least time is 1", x.second(), 0);
+        SignalProofs y = crossing(2, "A1-1");
+        y.clash(0, 1, 5);
+        y.most(0, 1);
+        y.begin(2);
+        read(y, "A3-3;B1-1");
+        y.call(1, 1);
+        y.second();
+        y.second();
+        y.second();
+        due("2 no seconds between A and B", y.told(7), 2);
+        y.clash(0, 1, 0);
+        y.call(1, 1);
+        y.second();
+        due("2 most time is 31", y.second(), 0);
     }
 
     private static void promise2BeginRefusedChangesNothing() {
@@ -542,6 +558,10 @@ public final class PromisesTest {
         y.clash(1, 4, 11);
         y.second();
         due("11 the greatest of the seconds", y.told(4), 7);
+        SignalProofs z = crossing(3, "AB1-1;BC1-1");
+        z.clash(1, 2, 4);
+        due("11 B does not end, so nothing is cleared", z.second(), 1);
+        due("11 B and C", z.told(7), 6);
     }
 
     private static void promise11Faults() {
@@ -653,6 +673,36 @@ public final class PromisesTest {
         due("12 gone", x.told(8), BAD);
     }
 
+    private static void promise12EqualStates() {
+        SignalProofs x = crossing(2, "A15-20;B1-1");
+        x.clash(0, 1, 1);
+        due("12 proved", x.prove(400), 1);
+        for (int k = 0; k < 17; k++) {
+            x.second();
+        }
+        int number = x.told(8);
+        for (int k = 17; k < 39; k++) {
+            x.second();
+        }
+        due("12 T is 17 again", x.told(3), 17);
+        due("12 the same state, in whatever way it is come to", x.told(8), number);
+        SignalProofs early = crossing(2, "A1-2;B1-1");
+        SignalProofs late = crossing(2, "A1-2;B1-1");
+        early.clash(0, 1, 1);
+        late.clash(0, 1, 1);
+        early.prove(400);
+        late.prove(400);
+        early.call(1, 1);
+        early.second();
+        late.call(1, 2);
+        late.second();
+        late.second();
+        due("12 clears", early.told(4), 1);
+        due("12 clears", late.told(4), 1);
+        due("12 the third that is found", early.told(8), 2);
+        due("12 another, by T alone", late.told(8) > 2, true);
+    }
+
     private static void promise13Shown() {
         SignalProofs x = new SignalProofs();
         x.begin(3);
@@ -757,6 +807,13 @@ public final class PromisesTest {
         due("16 faulty", y.prove(400), 0);
         row(y, 0, 4, 1, 0, 2, 0, 0, 0);
         row(y, 1, 1, 1, 1, 3, 0, 0, 1);
+        SignalProofs z = crossing(3, "A1-9;B2-9;C1-9");
+        z.clash(0, 2, 9);
+        due("16 faulty", z.prove(400), 0);
+        row(z, 0, 2, 0, 1, 2, 0, 0, 0);
+        row(z, 1, 0, 0, 1, 2, 0, 0, 0);
+        row(z, 2, 3, 0, 2, 4, 0, 0, 2);
+        row(z, 3, BAD);
     }
 
     private static void promise17Longest() {
@@ -846,6 +903,21 @@ public final class PromisesTest {
         second(x, "20 s2", 3, 0, 0, 2, 1, 2, 0);
         x.begin(2);
         due("20 no plan", x.same(0), false);
+    }
+
+    private static void promise20SameWithoutFaults() {
+        SignalProofs x = crossing(2, "B1-1;A2-2", "B3-3;A1-1");
+        x.least(0, 2);
+        due("20 faulty", x.prove(400), 0);
+        x.plan(1, 1);
+        x.plan(0, 5);
+        due("20 up to A", x.same(4), true);
+        due("20 A is too short, though what is behind it was found", x.same(5), false);
+        for (int k = 0; k < 4; k++) {
+            due("20 no fault", x.second(), 0);
+        }
+        due("20 A is too short", x.second(), 3);
+        due("20 a state that was found", x.told(8) >= 0, true);
     }
 
     private static void promise20SameFromHere() {
