@@ -124,7 +124,7 @@ public final class SignalProofs {
             return BAD;
         }
         done++;
-        return machine.step(diary.take(done));
+        return machine.step(diary.eventOf(done));
     }
 
     public int told(int which) {
@@ -438,7 +438,7 @@ public final class SignalProofs {
         }
     }
 
-    /** The events that are told for seconds to come. */
+    /** The events that were told since the machine was as at first, those of seconds that are done too. */
     private static final class Diary {
         int count;
         private final int[] seconds = new int[MOST_NOTES];
@@ -457,19 +457,6 @@ public final class SignalProofs {
         int eventOf(int second) {
             int k = find(second);
             return k >= 0 ? events[k] : 0;
-        }
-
-        /** The event of a second that is done now, and so makes room for another. */
-        int take(int second) {
-            int k = find(second);
-            if (k < 0 || count < 1) {
-                return 0;
-            }
-            int event = events[k];
-            count--;
-            seconds[k] = seconds[count];
-            events[k] = events[count];
-            return event;
         }
 
         private int find(int second) {

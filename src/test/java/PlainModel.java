@@ -219,7 +219,7 @@ final class PlainModel {
     }
 
     private boolean tell(int event, int second) {
-        if (second <= done || events.containsKey(second) || events.tailMap(done + 1).size() == 60) {
+        if (second <= done || events.containsKey(second) || events.size() == 60) {
             return false;
         }
         events.put(second, event);

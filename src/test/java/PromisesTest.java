@@ -62,22 +62,6 @@ public final class PromisesTest {
         Check.due(what, got, want);
     }
 
-    private static SignalProofs crossing(int groups, String... plans) {
-        SignalProofs x = new SignalProofs();
-        x.begin(groups);
-        for (String plan : plans) {
-            due("read " + plan, read(x, plan) > 0, true);
-        }
-        return x;
-    }
-
-    private static int read(SignalProofs x, String text) {
-        for (int k = 0; k < text.length(); k++) {
-            due("unit", x.unit(text.charAt(k)), true);
-        }
-        return x.read();
-    }
-
     /** Does a second, and looks at the fault, plan, phase, T, clearing, waiting and shown groups. */
     private static void second(SignalProofs x, String what, int... want) {
         due(what + ": fault", x.second(), want[0]);
@@ -116,8 +100,8 @@ public final class PromisesTest {
         due("1 one group alone", x.call(1, 2), false);
         due("1 least of another", Check.thrown(() -> x.least(1, 1)), INDEX);
         due("1 least of the one", x.least(0, 1), true);
-        due("1 B is no group", read(x, "B1-1"), -1);
-        due("1 A is one", read(x, "A1-1"), 1);
+        due("1 B is no group", Make.read(x, "B1-1"), -1);
+        due("1 A is one", Make.read(x, "A1-1"), 1);
     }
 
     private static void promise2Begin() {
@@ -136,7 +120,7 @@ public final class PromisesTest {
     }
 
     private static void promise2BeginForgets() {
-        SignalProofs x = crossing(2, "AB1-2");
+        SignalProofs x = Make.crossing(2, "AB1-2");
         x.clash(0, 1, 3);
         x.least(0, 9);
         x.most(0, 1);
@@ -152,15 +136,15 @@ public final class PromisesTest {
         due("2 no row", x.row(0, 0), BAD);
         due("2 nothing told", x.call(0, 2), true);
         due("2 second 1 is to come again", x.call(0, 1), true);
-        due("2 a plan", read(x, "AB1-2;B1-1"), 2);
+        due("2 a plan", Make.read(x, "AB1-2;B1-1"), 2);
         due("2 told of seconds", x.told(0), 0);
         due("2 nothing clashes", x.second(), 0);
         due("2 least time is 1", x.second(), 0);
-        SignalProofs y = crossing(2, "A1-1");
+        SignalProofs y = Make.crossing(2, "A1-1");
         y.clash(0, 1, 5);
         y.most(0, 1);
         y.begin(2);
-        read(y, "A3-3;B1-1");
+        Make.read(y, "A3-3;B1-1");
         y.call(1, 1);
         y.second();
         y.second();
@@ -173,7 +157,7 @@ public final class PromisesTest {
     }
 
     private static void promise2BeginRefusedChangesNothing() {
-        SignalProofs x = crossing(1, "A1-2");
+        SignalProofs x = Make.crossing(1, "A1-2");
         x.second();
         x.call(0, 5);
         x.prove(400);
@@ -205,7 +189,7 @@ public final class PromisesTest {
     }
 
     private static void promise3ClashForgets() {
-        SignalProofs x = crossing(2, "A1-2;B1-2");
+        SignalProofs x = Make.crossing(2, "A1-2;B1-2");
         for (int times = 0; times < 2; times++) {
             x.second();
             due("3 a call is told", x.call(1, 3), true);
@@ -224,7 +208,7 @@ public final class PromisesTest {
     }
 
     private static void promise3ClashDirections() {
-        SignalProofs x = crossing(2, "A1-1;B1-1");
+        SignalProofs x = Make.crossing(2, "A1-1;B1-1");
         x.clash(0, 1, 15);
         due("3 A ends", x.second(), 0);
         due("3 A to B is cleared", x.told(4), 15);
@@ -237,14 +221,14 @@ public final class PromisesTest {
         x.clash(0, 1, 4);
         x.second();
         due("3 told anew", x.told(4), 4);
-        SignalProofs y = crossing(2, "AB1-1");
+        SignalProofs y = Make.crossing(2, "AB1-1");
         due("3 no clash yet", y.second(), 0);
         y.clash(1, 0, 0);
         due("3 they clash both ways round", y.second(), 1);
     }
 
     private static void promise4Least() {
-        SignalProofs x = crossing(2, "A1-2;B1-1");
+        SignalProofs x = Make.crossing(2, "A1-2;B1-1");
         due("4 group 2", Check.thrown(() -> x.least(2, 1)), INDEX);
         due("4 group -1", Check.thrown(() -> x.least(-1, 99)), INDEX);
         due("4 0", x.least(0, 0), false);
@@ -268,7 +252,7 @@ public final class PromisesTest {
     }
 
     private static void promise5Most() {
-        SignalProofs x = crossing(2, "A5-9;B1-1");
+        SignalProofs x = Make.crossing(2, "A5-9;B1-1");
         due("5 group 2", Check.thrown(() -> x.most(2, 1)), INDEX);
         due("5 group -1", Check.thrown(() -> x.most(-1, 99)), INDEX);
         due("5 0", x.most(0, 0), false);
@@ -315,11 +299,11 @@ public final class PromisesTest {
     private static void promise7ReadGood() {
         SignalProofs x = new SignalProofs();
         x.begin(6);
-        due("7 longest text", read(x, "ABCDEF15-31;ABCDEF15-31;ABCDEF15-31;ABCDEF15-31;ABCDEF15-31"), 5);
-        due("7 one phase", read(x, "F1-1"), 1);
+        due("7 longest text", Make.read(x, "ABCDEF15-31;ABCDEF15-31;ABCDEF15-31;ABCDEF15-31;ABCDEF15-31"), 5);
+        due("7 one phase", Make.read(x, "F1-1"), 1);
         due("7 shown are A to F", x.told(7), 63);
-        due("7 two phases", read(x, "ACE9-10;B15-15"), 2);
-        SignalProofs y = crossing(3, "AC2-3;B1-1");
+        due("7 two phases", Make.read(x, "ACE9-10;B15-15"), 2);
+        SignalProofs y = Make.crossing(3, "AC2-3;B1-1");
         due("7 shown are A and C", y.told(7), 5);
         y.second();
         y.second();
@@ -327,7 +311,7 @@ public final class PromisesTest {
         y.second();
         due("7 it ends at 3", y.told(2), 1);
         y.begin(3);
-        read(y, "AC2-3;B1-1");
+        Make.read(y, "AC2-3;B1-1");
         y.call(1, 1);
         y.second();
         due("7 least time is 2", y.told(2), 0);
@@ -355,28 +339,28 @@ public final class PromisesTest {
             24, 24, 24,
         };
         for (int k = 0; k < texts.length; k++) {
-            due("7 read '" + texts[k] + "'", read(x, texts[k]), -1 - wrongSigns[k]);
+            due("7 read '" + texts[k] + "'", Make.read(x, texts[k]), -1 - wrongSigns[k]);
         }
         due("7 no plan came of it", x.program(), 0);
-        read(x, "A1-1");
-        read(x, "B1-1");
-        read(x, "C1-1");
-        due("7 a fourth plan", read(x, "A1-1;B1-2"), -10);
-        due("7 a fourth plan, wrong before its end", read(x, "A1-1;D"), -6);
+        Make.read(x, "A1-1");
+        Make.read(x, "B1-1");
+        Make.read(x, "C1-1");
+        due("7 a fourth plan", Make.read(x, "A1-1;B1-2"), -10);
+        due("7 a fourth plan, wrong before its end", Make.read(x, "A1-1;D"), -6);
         due("7 a fourth plan without a sign", x.read(), -1);
         due("7 three plans", x.program(), 3);
     }
 
     private static void promise7ReadForgets() {
-        SignalProofs x = crossing(2, "A1-2;B1-2");
+        SignalProofs x = Make.crossing(2, "A1-2;B1-2");
         x.second();
         x.call(1, 3);
         x.prove(400);
-        due("7 a wrong text", read(x, "A1-"), -4);
+        due("7 a wrong text", Make.read(x, "A1-"), -4);
         due("7 wrong: seconds stay", x.told(0), 1);
         due("7 wrong: states stay", x.states() > 0, true);
         due("7 wrong: told stays", x.call(0, 3), false);
-        due("7 a plan", read(x, "A1-1"), 1);
+        due("7 a plan", Make.read(x, "A1-1"), 1);
         due("7 seconds are gone", x.told(0), 0);
         due("7 states are gone", x.states(), 0);
         due("7 told is gone", x.call(0, 3), true);
@@ -388,17 +372,17 @@ public final class PromisesTest {
         SignalProofs x = new SignalProofs();
         for (int plans = 0; plans < 3; plans++) {
             due("8 program", x.program(), plans);
-            read(x, "A");
+            Make.read(x, "A");
             due("8 a wrong text is none", x.program(), plans);
-            read(x, "A1-1");
+            Make.read(x, "A1-1");
         }
         due("8 three", x.program(), 3);
-        read(x, "A1-1");
+        Make.read(x, "A1-1");
         due("8 three at most", x.program(), 3);
     }
 
     private static void promise9Call() {
-        SignalProofs x = crossing(2, "A3-9;B1-1");
+        SignalProofs x = Make.crossing(2, "A3-9;B1-1");
         due("9 second 0 was", x.call(1, 0), false);
         due("9 second -1", x.call(1, -1), false);
         due("9 second MIN", x.call(1, Integer.MIN_VALUE), false);
@@ -415,12 +399,12 @@ public final class PromisesTest {
         SignalProofs y = new SignalProofs();
         y.begin(2);
         due("9 without a plan", y.call(1, 1), true);
-        read(y, "A3-9;B1-1");
+        Make.read(y, "A3-9;B1-1");
         due("9 the plan made that gone", y.second() + y.told(6), 0);
     }
 
     private static void promise9SixtyAreTold() {
-        SignalProofs x = crossing(2, "A1-2;B1-1");
+        SignalProofs x = Make.crossing(2, "A1-2;B1-1");
         for (int k = 1; k <= 60; k++) {
             due("9 telling " + k, k % 2 == 0 ? x.call(0, 2 * k) : x.plan(0, 2 * k), true);
         }
@@ -429,13 +413,12 @@ public final class PromisesTest {
         x.second();
         due("9 nothing of it was for second 1", x.call(0, 3), false);
         x.second();
-        due("9 second 2 is done: room", x.call(0, 3), true);
-        due("9 60 are told again", x.call(0, 5), false);
+        due("9 second 2 is done, but it was told: still 60", x.call(0, 3), false);
         due("9 what is told is still told", x.call(0, 120), false);
     }
 
     private static void promise10Plan() {
-        SignalProofs x = crossing(2, "A1-9", "B2-9");
+        SignalProofs x = Make.crossing(2, "A1-9", "B2-9");
         due("10 no plan 2", x.plan(2, 1), false);
         due("10 no plan -1", x.plan(-1, 1), false);
         due("10 second 0", x.plan(1, 0), false);
@@ -456,7 +439,7 @@ public final class PromisesTest {
     }
 
     private static void promise11SecondRound() {
-        SignalProofs x = crossing(2, "A2-4;B1-3");
+        SignalProofs x = Make.crossing(2, "A2-4;B1-3");
         x.clash(0, 1, 2);
         ages(x, "11 first", 0, 15);
         second(x, "11 s1", 0, 0, 0, 1, 0, 0, 1);
@@ -478,7 +461,7 @@ public final class PromisesTest {
     }
 
     private static void promise11SecondCalls() {
-        SignalProofs x = crossing(4, "A1-5;B1-5;C1-5");
+        SignalProofs x = Make.crossing(4, "A1-5;B1-5;C1-5");
         x.call(0, 1);
         x.call(2, 2);
         second(x, "11 A is shown, so it does not wait", 0, 0, 0, 1, 0, 0, 1);
@@ -488,7 +471,7 @@ public final class PromisesTest {
         x.call(3, 4);
         second(x, "11 D is nowhere: the next one", 0, 0, 2, 0, 0, 8, 4);
         second(x, "11 and on", 0, 0, 0, 0, 0, 8, 1);
-        SignalProofs y = crossing(2, "A3-9;B1-1");
+        SignalProofs y = Make.crossing(2, "A3-9;B1-1");
         y.clash(0, 1, 3);
         y.call(1, 1);
         y.call(0, 4);
@@ -501,7 +484,7 @@ public final class PromisesTest {
     }
 
     private static void promise11SecondPlans() {
-        SignalProofs x = crossing(3, "A2-9;B1-9", "C3-9;A1-9");
+        SignalProofs x = Make.crossing(3, "A2-9;B1-9", "C3-9;A1-9");
         x.clash(0, 2, 2);
         x.plan(1, 1);
         x.plan(0, 3);
@@ -514,7 +497,7 @@ public final class PromisesTest {
         second(x, "11 C 1", 0, 1, 0, 1, 0, 2, 4);
         second(x, "11 C 2", 0, 1, 0, 2, 0, 2, 4);
         second(x, "11 phase 0 of plan 0, not B who waits", 0, 0, 0, 0, 0, 2, 1);
-        SignalProofs y = crossing(1, "A1-9", "A1-9");
+        SignalProofs y = Make.crossing(1, "A1-9", "A1-9");
         y.second();
         y.second();
         y.plan(1, 3);
@@ -523,13 +506,13 @@ public final class PromisesTest {
     }
 
     private static void promise11SecondOnePhase() {
-        SignalProofs x = crossing(2, "A1-2");
+        SignalProofs x = Make.crossing(2, "A1-2");
         x.call(1, 3);
         for (int k = 1; k <= 40; k++) {
             second(x, "11 one phase " + k, 0, 0, 0, Math.min(k, 31), 0, k < 3 ? 0 : 2, 1);
         }
         ages(x, "11 at most", 31, 15);
-        SignalProofs y = crossing(2, "A1-1;B15-31");
+        SignalProofs y = Make.crossing(2, "A1-1;B15-31");
         for (int k = 1; k <= 20; k++) {
             y.second();
         }
@@ -537,7 +520,7 @@ public final class PromisesTest {
     }
 
     private static void promise11SecondClearingKeepsShown() {
-        SignalProofs x = crossing(4, "AB1-1;BC1-1;BD1-9");
+        SignalProofs x = Make.crossing(4, "AB1-1;BC1-1;BD1-9");
         x.clash(0, 2, 1);
         x.clash(0, 1, 0);
         x.clash(0, 1, 9);
@@ -550,7 +533,7 @@ public final class PromisesTest {
         due("11 B was shown, so it does not wait", x.told(6), 0);
         due("11 B and C", x.told(7), 6);
         ages(x, "11 C is new", 1, 2, 0, 15);
-        SignalProofs y = crossing(5, "AB1-1;CD1-1");
+        SignalProofs y = Make.crossing(5, "AB1-1;CD1-1");
         y.clash(0, 2, 3);
         y.clash(1, 3, 7);
         y.clash(1, 2, 5);
@@ -558,18 +541,18 @@ public final class PromisesTest {
         y.clash(1, 4, 11);
         y.second();
         due("11 the greatest of the seconds", y.told(4), 7);
-        SignalProofs z = crossing(3, "AB1-1;BC1-1");
+        SignalProofs z = Make.crossing(3, "AB1-1;BC1-1");
         z.clash(1, 2, 4);
         due("11 B does not end, so nothing is cleared", z.second(), 1);
         due("11 B and C", z.told(7), 6);
     }
 
     private static void promise11Faults() {
-        SignalProofs one = crossing(2, "AB1-3");
+        SignalProofs one = Make.crossing(2, "AB1-3");
         one.clash(0, 1, 0);
         due("11 fault 1", one.second(), 1);
         due("11 the second is done all the same", one.told(3), 1);
-        SignalProofs two = crossing(3, "A1-1;C1-1;B1-1");
+        SignalProofs two = Make.crossing(3, "A1-1;C1-1;B1-1");
         two.clash(0, 1, 1);
         due("11 A ends", two.second(), 0);
         due("11 B begins, A's age is 1", two.second(), 0);
@@ -581,14 +564,14 @@ public final class PromisesTest {
         two.clash(1, 0, 15);
         two.second();
         due("11 what counts is from A's end to B", two.second(), 0);
-        SignalProofs three = crossing(2, "AB1-1;B1-1;A1-1");
+        SignalProofs three = Make.crossing(2, "AB1-1;B1-1;A1-1");
         three.least(0, 2);
         three.least(1, 2);
         due("11 fault 3 by A", three.second(), 3);
         due("11 B was shown for 2", three.second(), 0);
         due("11 A begins a new count at 0 and goes on into AB", three.second(), 0);
         due("11 A was shown for 2 then", three.second(), 0);
-        SignalProofs four = crossing(3, "A5-9;B1-1");
+        SignalProofs four = Make.crossing(3, "A5-9;B1-1");
         four.most(0, 1);
         four.clash(1, 0, 0);
         four.call(2, 1);
@@ -601,16 +584,16 @@ public final class PromisesTest {
     }
 
     private static void promise11FirstFaultThatHolds() {
-        SignalProofs x = crossing(3, "A1-1;BC1-1");
+        SignalProofs x = Make.crossing(3, "A1-1;BC1-1");
         x.least(0, 5);
         x.clash(1, 2, 0);
         due("11 1 before 3", x.second(), 1);
-        SignalProofs y = crossing(3, "A1-1;C1-1;B1-1");
+        SignalProofs y = Make.crossing(3, "A1-1;C1-1;B1-1");
         y.clash(0, 1, 9);
         y.least(2, 5);
         due("11 none yet", y.second(), 0);
         due("11 2 before 3", y.second(), 2);
-        SignalProofs z = crossing(4, "AC2-2;BC1-1");
+        SignalProofs z = Make.crossing(4, "AC2-2;BC1-1");
         z.least(0, 5);
         z.most(2, 1);
         z.clash(2, 3, 0);
@@ -618,7 +601,7 @@ public final class PromisesTest {
         due("11 none yet", z.second(), 0);
         due("11 3 before 4", z.second(), 3);
         due("11 4 alone", z.second(), 4);
-        SignalProofs v = crossing(4, "A1-1;C1-1;BD1-1");
+        SignalProofs v = Make.crossing(4, "A1-1;C1-1;BD1-1");
         v.clash(0, 1, 9);
         v.clash(1, 3, 0);
         v.second();
@@ -626,7 +609,7 @@ public final class PromisesTest {
     }
 
     private static void promise12Told() {
-        SignalProofs x = crossing(2, "A3-9;B2-9", "B2-9;A1-3");
+        SignalProofs x = Make.crossing(2, "A3-9;B2-9", "B2-9;A1-3");
         x.clash(0, 1, 4);
         x.plan(1, 1);
         x.call(1, 2);
@@ -642,7 +625,7 @@ public final class PromisesTest {
         due("12 -1", x.told(-1), BAD);
         due("12 MIN", x.told(Integer.MIN_VALUE), BAD);
         due("12 MAX", x.told(Integer.MAX_VALUE), BAD);
-        SignalProofs six = crossing(6, "A1-1");
+        SignalProofs six = Make.crossing(6, "A1-1");
         due("12 the sixth age", six.told(14), 15);
         due("12 no seventh", six.told(15), BAD);
         x.begin(2);
@@ -658,7 +641,7 @@ public final class PromisesTest {
     }
 
     private static void promise12ToldState() {
-        SignalProofs x = crossing(2, "A2-3;B1-1");
+        SignalProofs x = Make.crossing(2, "A2-3;B1-1");
         due("12 nothing is found", x.told(8), BAD);
         x.prove(400);
         due("12 the first", x.told(8), 0);
@@ -674,7 +657,7 @@ public final class PromisesTest {
     }
 
     private static void promise12EqualStates() {
-        SignalProofs x = crossing(2, "A15-20;B1-1");
+        SignalProofs x = Make.crossing(2, "A15-20;B1-1");
         x.clash(0, 1, 1);
         due("12 proved", x.prove(400), 1);
         for (int k = 0; k < 17; k++) {
@@ -686,8 +669,8 @@ public final class PromisesTest {
         }
         due("12 T is 17 again", x.told(3), 17);
         due("12 the same state, in whatever way it is come to", x.told(8), number);
-        SignalProofs early = crossing(2, "A1-2;B1-1");
-        SignalProofs late = crossing(2, "A1-2;B1-1");
+        SignalProofs early = Make.crossing(2, "A1-2;B1-1");
+        SignalProofs late = Make.crossing(2, "A1-2;B1-1");
         early.clash(0, 1, 1);
         late.clash(0, 1, 1);
         early.prove(400);
@@ -707,7 +690,7 @@ public final class PromisesTest {
         SignalProofs x = new SignalProofs();
         x.begin(3);
         due("13 no plan", x.shown(0), BAD);
-        read(x, "AC1-1;B1-1");
+        Make.read(x, "AC1-1;B1-1");
         due("13 A", x.shown(0), 1);
         due("13 B", x.shown(1), 0);
         due("13 C", x.shown(2), 1);
@@ -723,7 +706,7 @@ public final class PromisesTest {
     }
 
     private static void promise14Prove() {
-        SignalProofs x = crossing(1, "A1-2");
+        SignalProofs x = Make.crossing(1, "A1-2");
         due("14 32 states are enough", x.prove(32), 1);
         due("14 31 are not", x.prove(31), 2);
         due("14 1", x.prove(1), 2);
@@ -736,11 +719,11 @@ public final class PromisesTest {
             due("14 so is longest", x.longest(0), NONE);
             due("14 and answered", x.answered(), false);
         }
-        SignalProofs y = crossing(2, "AB1-3");
+        SignalProofs y = Make.crossing(2, "AB1-3");
         y.clash(0, 1, 0);
         due("14 a fault in the first second", y.prove(1), 0);
         due("14 one state", y.states(), 1);
-        SignalProofs z = crossing(2, "A2-3;B1-1");
+        SignalProofs z = Make.crossing(2, "A2-3;B1-1");
         z.clash(0, 1, 1);
         z.least(0, 3);
         due("14 a fault by a call at 2", z.prove(400), 0);
@@ -751,7 +734,7 @@ public final class PromisesTest {
     }
 
     private static void promise14ProveKeepsMachine() {
-        SignalProofs x = crossing(2, "A1-2;B1-2");
+        SignalProofs x = Make.crossing(2, "A1-2;B1-2");
         x.call(1, 3);
         x.second();
         due("14 proved", x.prove(400), 1);
@@ -765,7 +748,7 @@ public final class PromisesTest {
     }
 
     private static void promise15States() {
-        SignalProofs x = crossing(2, "A1-2");
+        SignalProofs x = Make.crossing(2, "A1-2");
         due("15 without a proof", x.states(), 0);
         x.prove(400);
         due("15 T of 0, and of 1 to 31 with B waiting or not", x.states(), 63);
@@ -775,13 +758,13 @@ public final class PromisesTest {
         due("15 of more", x.states(), 1);
         x.most(0, 31);
         due("15 gone", x.states(), 0);
-        SignalProofs y = crossing(1, "A1-2", "A1-2");
+        SignalProofs y = Make.crossing(1, "A1-2", "A1-2");
         y.prove(400);
         due("15 equal states are one; ages part the plans", y.states() > 64, true);
     }
 
     private static void promise16Row() {
-        SignalProofs x = crossing(2, "A2-3;B1-1");
+        SignalProofs x = Make.crossing(2, "A2-3;B1-1");
         due("16 without a proof", x.row(0, 0), BAD);
         x.clash(0, 1, 1);
         x.least(0, 3);
@@ -802,12 +785,12 @@ public final class PromisesTest {
         due("16 gone", x.row(1, 6), BAD);
         x.prove(400);
         due("16 the last proof was 1", x.row(0, 0), BAD);
-        SignalProofs y = crossing(2, "A1-9", "B1-9;AB1-9");
+        SignalProofs y = Make.crossing(2, "A1-9", "B1-9;AB1-9");
         y.clash(0, 1, 0);
         due("16 faulty", y.prove(400), 0);
         row(y, 0, 4, 1, 0, 2, 0, 0, 0);
         row(y, 1, 1, 1, 1, 3, 0, 0, 1);
-        SignalProofs z = crossing(3, "A1-9;B2-9;C1-9");
+        SignalProofs z = Make.crossing(3, "A1-9;B2-9;C1-9");
         z.clash(0, 2, 9);
         due("16 faulty", z.prove(400), 0);
         row(z, 0, 2, 0, 1, 2, 0, 0, 0);
@@ -817,7 +800,7 @@ public final class PromisesTest {
     }
 
     private static void promise17Longest() {
-        SignalProofs x = crossing(2, "A1-1;B2-2");
+        SignalProofs x = Make.crossing(2, "A1-1;B2-2");
         due("17 without a proof", x.longest(0), NONE);
         due("17 proved", x.prove(400), 1);
         due("17 A waits at T 1 of B alone", x.longest(0), 1);
@@ -826,13 +809,13 @@ public final class PromisesTest {
         due("17 no group", x.longest(-1), NONE);
         x.prove(2);
         due("17 the last proof was 2", x.longest(0), NONE);
-        SignalProofs y = crossing(2, "A2-9;B1-5");
+        SignalProofs y = Make.crossing(2, "A2-9;B1-5");
         y.clash(0, 1, 3);
         y.clash(1, 0, 2);
         y.prove(400);
         due("17 A: 2 of clearing, B's 1 and 2 of clearing", y.longest(0), 5);
         due("17 B: 1 of clearing, A's 2 and 3 of clearing", y.longest(1), 6);
-        SignalProofs z = crossing(2, "A1-2");
+        SignalProofs z = Make.crossing(2, "A1-2");
         z.prove(400);
         due("17 B has no phase", z.longest(1), -1);
         due("17 A is always shown", z.longest(0), 0);
@@ -843,7 +826,7 @@ public final class PromisesTest {
     }
 
     private static void promise18Ring() {
-        SignalProofs x = crossing(3, "A1-2");
+        SignalProofs x = Make.crossing(3, "A1-2");
         due("18 without a proof", x.ring(0), BAD);
         due("18 proved", x.prove(400), 1);
         due("18 first", x.ring(0), 1);
@@ -853,19 +836,19 @@ public final class PromisesTest {
         due("18 MAX", x.ring(Integer.MAX_VALUE), BAD);
         x.prove(3);
         due("18 the last proof was 2", x.ring(0), BAD);
-        SignalProofs y = crossing(2, "A1-1;B1-1", "A1-1;A1-1");
+        SignalProofs y = Make.crossing(2, "A1-1;B1-1", "A1-1;A1-1");
         due("18 proved", y.prove(400), 1);
         due("18 A", y.longest(0), 0);
         due("18 B, if plan 1 is kept", y.longest(1), -1);
         due("18 B", y.ring(0), 1);
         due("18 B alone", y.ring(1), BAD);
-        SignalProofs z = crossing(2, "A1-1;B2-2");
+        SignalProofs z = Make.crossing(2, "A1-1;B2-2");
         z.prove(400);
         due("18 nobody", z.ring(0), BAD);
     }
 
     private static void promise19Answered() {
-        SignalProofs x = crossing(2, "A1-1;B2-2");
+        SignalProofs x = Make.crossing(2, "A1-1;B2-2");
         due("19 without a proof", x.answered(), false);
         x.prove(400);
         due("19 all are answered", x.answered(), true);
@@ -874,13 +857,13 @@ public final class PromisesTest {
         x.least(1, 3);
         due("19 faulty", x.prove(400), 0);
         due("19 the last proof was 0", x.answered(), false);
-        SignalProofs y = crossing(2, "A1-2");
+        SignalProofs y = Make.crossing(2, "A1-2");
         y.prove(400);
         due("19 B waits without end", y.answered(), false);
     }
 
     private static void promise20Same() {
-        SignalProofs x = crossing(2, "A2-3;B1-1");
+        SignalProofs x = Make.crossing(2, "A2-3;B1-1");
         x.clash(0, 1, 1);
         due("20 no proof", x.same(0), false);
         due("20 proved", x.prove(400), 1);
@@ -906,7 +889,7 @@ public final class PromisesTest {
     }
 
     private static void promise20SameWithoutFaults() {
-        SignalProofs x = crossing(2, "B1-1;A2-2", "B3-3;A1-1");
+        SignalProofs x = Make.crossing(2, "B1-1;A2-2", "B3-3;A1-1");
         x.least(0, 2);
         due("20 faulty", x.prove(400), 0);
         x.plan(1, 1);
@@ -921,7 +904,7 @@ public final class PromisesTest {
     }
 
     private static void promise20SameFromHere() {
-        SignalProofs x = crossing(1, "A1-2");
+        SignalProofs x = Make.crossing(1, "A1-2");
         x.prove(2);
         due("20 T 0", x.same(0), true);
         due("20 T 1", x.same(1), true);
