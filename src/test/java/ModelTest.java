@@ -29,7 +29,7 @@ public final class ModelTest {
             String where = "run " + run + ", call " + calls + ": ";
             int kind = random.nextInt(100);
             if (kind < 5) {
-                begin(where, random.nextInt(4) == 0 ? odd() : 1 + random.nextInt(4));
+                begin(where, random.nextInt(4) == 0 ? odd() : 1 + random.nextInt(random.nextInt(4) == 0 ? 6 : 4));
             } else if (kind < 12) {
                 text(where);
             } else if (kind < 22) {
@@ -86,7 +86,7 @@ public final class ModelTest {
 
     private void text(String where) {
         StringBuilder text = new StringBuilder();
-        int phases = random.nextInt(30) == 0 ? 6 : 1 + random.nextInt(3);
+        int phases = random.nextInt(30) == 0 ? 6 : 1 + random.nextInt(random.nextInt(5) == 0 ? 5 : 3);
         for (int k = 0; k < phases; k++) {
             text.append(k == 0 ? "" : ";");
             int members = 1 + random.nextInt((1 << groups) - 1);
