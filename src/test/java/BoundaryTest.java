@@ -320,6 +320,8 @@ public final class BoundaryTest {
         Check.sentence("At first: plan 0, phase 0, T 0, wanted plan 0, nobody waits, ages 0 and 15");
         x = Make.crossing(3, "AC2-3;B1-1", "B1-1");
         tell(x, "at first", 0, 0, 0, 0, 0, 0, 0, 5, BAD, 0, 15, 0, BAD);
+        x = Make.crossing(6, "CDE2-3;ABF1-1");
+        tell(x, "at first", 0, 0, 0, 0, 0, 0, 0, 28, BAD, 15, 15, 0, 0, 0, 15, BAD);
     }
 
     private static void termsOfEvents() {
@@ -648,6 +650,7 @@ public final class BoundaryTest {
             due("clearing", x.told(4), seconds);
         }
 
+        // what was told of A and B stays when A and C are told, whichever way round
         int[][] orders = {{0, 1, 0, 2}, {1, 0, 2, 0}, {0, 1, 2, 0}, {1, 0, 0, 2}};
         for (int[] o : orders) {
             for (int waiting = 1; waiting <= 3; waiting++) {
@@ -1097,6 +1100,13 @@ public final class BoundaryTest {
             rowIs(last, 1, 2, 2, 4, 3, 0, 0, 1);
             rowIs(last, 2, BAD, BAD, BAD, BAD, BAD, BAD, BAD);
         }
+        SignalProofs six = Make.crossing(6, "A4-4;F3-3");
+        six.clash(0, 5, 0);
+        six.most(0, 2);
+        due("a fault by the last group", six.prove(400), 0);
+        rowIs(six, 0, 0, 0, 0, 1, 0, 0, 0);
+        rowIs(six, 1, 0, 0, 0, 1, 0, 0, 0);
+        rowIs(six, 2, 6, 0, 0, 1, 0, 32, 4);
         SignalProofs one = Make.crossing(2, "AB1-3");
         one.clash(0, 1, 0);
         one.prove(400);
@@ -1152,11 +1162,11 @@ public final class BoundaryTest {
         due("proved", slow.prove(400), 1);
         due("A: 14 of clearing, 1 of B, 15 of clearing", slow.longest(0), 30);
         due("B: 14 of clearing, 1 of A, 15 of clearing", slow.longest(1), 30);
-        SignalProofs six = Make.crossing(6, "A2-2;F3-3");
-        six.least(0, 2);
+        SignalProofs six = Make.crossing(6, "A4-4;F3-3");
+        six.least(0, 4);
         six.least(5, 3);
         due("proved", six.prove(400), 1);
-        int[] waits = {2, -1, -1, -1, -1, 1};
+        int[] waits = {2, -1, -1, -1, -1, 3};
         for (int g = 0; g < 6; g++) {
             due("group " + g + " of six", six.longest(g), waits[g]);
         }
@@ -1191,6 +1201,15 @@ public final class BoundaryTest {
         for (int k : new int[] {MIN, -1, 6, MAX}) {
             due("ring(" + k + ")", x.ring(k), BAD);
         }
+        x = Make.crossing(6, "A2-2;F3-3");
+        due("proved", x.prove(400), 1);
+        for (int k = 0; k <= 6; k++) {
+            due("ring(" + k + ") of six", x.ring(k), k < 4 ? k + 1 : BAD);
+        }
+        x.begin(2);
+        Make.read(x, "A1-1;B1-1");
+        due("proved", x.prove(400), 1);
+        due("of two groups, nobody", x.ring(0), BAD);
     }
 
     private static void answered() {

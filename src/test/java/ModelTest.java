@@ -2,7 +2,7 @@ import java.util.Random;
 
 /** Random, but repeatable, runs of calls on the program and on the plain model: all answers are alike. */
 public final class ModelTest {
-    private static final int RUNS = 1000, CALLS = 500;
+    private static final int RUNS = 1000, PROOFS = 2000, CALLS = 500;
     private static final int[] ODD = {
         Integer.MIN_VALUE, -65536, -2, -1, 6, 7, 16, 32, 60, 100, 101, 400, 401, 65536, Integer.MAX_VALUE,
     };
@@ -20,6 +20,9 @@ public final class ModelTest {
     public static void main(String[] args) {
         for (int run = 0; run < RUNS; run++) {
             new ModelTest(run).run(run);
+        }
+        for (int run = RUNS; run < RUNS + PROOFS; run++) {
+            new ModelTest(run).prove(run);
         }
         Check.end();
     }
@@ -47,6 +50,19 @@ public final class ModelTest {
                 look(where);
             }
         }
+    }
+
+    /** A small crossing, whose states are mostly all found, and what follows from them. */
+    private void prove(int run) {
+        String where = "run " + run + ": ";
+        begin(where, 2 + random.nextInt(2));
+        for (int plans = random.nextInt(3); plans >= 0; plans--) {
+            text(where);
+        }
+        for (int k = random.nextInt(4); k > 0; k--) {
+            bounds(where);
+        }
+        proof(where);
     }
 
     private int odd() {
