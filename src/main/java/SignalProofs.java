@@ -852,7 +852,10 @@ public final class SignalProofs {
         private final int[] queue = new int[MOST_STATES];
 
         void link(int state, int event, int next) {
-            nexts[state * MOST_EVENTS + event] = next;
+            int at = state * MOST_EVENTS + event;
+            if (at >= 0 && at < nexts.length && next >= 0 && next < MOST_STATES) {
+                nexts[at] = next;
+            }
         }
 
         /**
@@ -877,7 +880,7 @@ public final class SignalProofs {
                     if (Machine.waitsIn(keys[next], group)) {
                         depths[next] = Math.max(depths[next], depths[s] + 1);
                         unfollowed[next]--;
-                        if (unfollowed[next] == 0) {
+                        if (unfollowed[next] == 0 && queued < waiting) {
                             queue[queued] = next;
                             queued++;
                         }
